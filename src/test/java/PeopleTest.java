@@ -4,10 +4,12 @@ public final class PeopleTest {
         Checks c = new Checks("PeopleTest");
         add(c);
         addWrong(c);
+        addAfterRestore(c);
         read(c);
         readWrong(c);
         readTooMany(c);
         moveShifts(c);
+        moveInAFullList(c);
         moveKeepsTurn(c);
         moveKeepsGuardian(c);
         moveWrong(c);
@@ -40,19 +42,20 @@ public final class PeopleTest {
         c.refused(x, before, "add(10, 5)", x.add(10, 5), -2);
         c.refused(x, before, "add(5, -1)", x.add(5, -1), -2);
         c.refused(x, before, "add(5, 101)", x.add(5, 101), -2);
-        // a row that is used again holds nothing of its last person
-        c.due("pass(3)", x.pass(3), 1);
-        c.due("add(1, 1)", x.add(1, 1), 1);
-        x.stepDown();
-        x.pass(27);
-        c.due("undo()", x.undo(), 4);
-        c.due("undo()", x.undo(), 3);
-        c.due("undo()", x.undo(), 2);
-        c.due("add(2, 2)", x.add(2, 2), 1);
-        c.due("person(1, 2)", x.person(1, 2), 0);
-        c.due("person(1, 3)", x.person(1, 3), 0);
-        c.due("person(1, 6)", x.person(1, 6), 0);
-        c.due("person(1, 7)", x.person(1, 7), 0);
+    }
+
+    private static void addAfterRestore(Checks c) {
+        PurrProbates x = new PurrProbates();
+        x.save(0);
+        x.add(1, 1);
+        x.pass(1);
+        x.set(PurrProbates.PURR, 1);
+        x.pass(40);
+        c.due("the first has a past", Checks.answers(x).contains("1 1 1 30 0 1045 1 40 0") ? 1 : 0, 1);
+        x.restore(0);
+        c.due("people", x.count(7), 0);
+        c.due("add(2, 2)", x.add(2, 2), 0);
+        c.due("the new one has none", Checks.answers(x).contains("| 2 2 0 0 0 1060 0 0 0 |") ? 1 : 0, 1);
     }
 
     private static void read(Checks c) {
@@ -114,6 +117,16 @@ public final class PeopleTest {
         order(c, x, "23415");
         c.due("count(20)", x.count(20), 6);
         c.due("person(3, 1)", x.person(3, 1), 1);
+    }
+
+    private static void moveInAFullList(Checks c) {
+        PurrProbates x = Checks.withPeople("1f1,2f2,3f3,4f4,5f5,6f6,7f7,8f8");
+        c.due("move(0, 7)", x.move(0, 7), 8);
+        order(c, x, "23456781");
+        c.due("move(7, 0)", x.move(7, 0), 8);
+        order(c, x, "12345678");
+        c.due("move(6, 7)", x.move(6, 7), 2);
+        order(c, x, "12345687");
     }
 
     private static void order(Checks c, PurrProbates x, String warmths) {

@@ -3,6 +3,7 @@ public final class UndoTest {
     public static void main(String[] args) {
         Checks c = new Checks("UndoTest");
         everyChange(c);
+        deposing(c);
         changesWithoutDifference(c);
         sixStates(c);
         errorsAreNotRecorded(c);
@@ -53,6 +54,23 @@ public final class UndoTest {
             c.due("count(20)", x.count(20), 5);
             c.due("state behind undo of " + change, state(x), before);
         }
+    }
+
+    private static void deposing(Checks c) {
+        PurrProbates x = Checks.withPeople("1f0,9f0");
+        x.set(PurrProbates.PURR, 50);
+        x.set(PurrProbates.COST, 0);
+        x.pass(1);
+        String before = state(x);
+        c.due("appeal(1)", x.appeal(1), 1);
+        c.due("deposed", x.count(15), 1);
+        c.due("undo()", x.undo(), 4);
+        c.due("deposed", x.count(15), 0);
+        c.due("state behind undo of an appeal that is won", state(x), before);
+        x.save(0);
+        x.appeal(1);
+        x.restore(0);
+        c.due("state behind restore", state(x), before);
     }
 
     private static int call(PurrProbates x, String change) {
