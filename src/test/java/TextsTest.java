@@ -30,11 +30,10 @@ public final class TextsTest {
             0x3000303030303030L, 0x2030, 0x3020, 0x307f, 0x7f30, 0x2030303030303030L, 0x7f30303030303030L,
             -1, Long.MIN_VALUE, Long.MAX_VALUE, 0x8030303030303030L, 0xb030303030303030L, 0x0100000000000030L,
             0x0130, 0x0100000000000035L};
-        PurrProbates x = Checks.withPeople("4f50");
-        x.put('7');
-        String before = Checks.answers(x);
         for (long number : wrong) {
-            c.refused(x, before, "put(" + number + ")", x.put(number), -2);
+            PurrProbates x = Checks.withPeople("4f50");
+            x.put('7');
+            c.refused(x, Checks.answers(x), "put(" + number + ")", x.put(number), -2);
         }
     }
 

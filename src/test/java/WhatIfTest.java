@@ -209,6 +209,8 @@ public final class WhatIfTest {
         c.refused(x, before, "ifPassed(greatest, 0)", x.ifPassed(Integer.MAX_VALUE, 0), -2);
         c.refused(x, before, "ifPassed(1, -1)", x.ifPassed(1, -1), -2);
         c.refused(x, before, "ifPassed(1, 5)", x.ifPassed(1, 5), -2);
+        x = Checks.withPeople("4f50,1f7");
+        before = Checks.answers(x);
         c.refused(x, before, "bestPlace(2, 0)", x.bestPlace(2, 0), -1);
         c.refused(x, before, "bestPlace(-1, 0)", x.bestPlace(-1, 0), -1);
         c.refused(x, before, "bestPlace(2, 2)", x.bestPlace(2, 2), -1);
