@@ -85,9 +85,12 @@ public final class BoundaryListTest {
         }
     }
 
-    /** Those who were undone leave nothing to those who come to their places. */
+    /** Those who are no more leave nothing to those who come to their places. */
     private static void newPeopleInThePlaceOfOthers(Checks c) {
-        PurrProbates x = Checks.withPeople("3f0,9f0");
+        PurrProbates x = new PurrProbates();
+        x.save(1);
+        Checks.putAll(x, "3f0,9f0");
+        x.read();
         x.set(PurrProbates.MONTH, 5);
         x.pass(1);
         x.set(PurrProbates.PURR, 53);
@@ -96,9 +99,7 @@ public final class BoundaryListTest {
         c.due("purse of the first", x.person(0, 3), 30);
         c.due("scratches of the second", x.person(1, 2), 1);
         x.save(0);
-        for (int left = 5; left >= 0; left--) {
-            c.due("undo()", x.undo(), left);
-        }
+        c.due("restore(1)", x.restore(1), 0);
         c.due("people", x.count(7), 0);
         Checks.putAll(x, "4f0,4f0");
         c.due("read()", x.read(), 2);
